@@ -8,8 +8,13 @@ final class Due {
     static final Class<?> ARGUMENT = IllegalArgumentException.class;
     static final Class<?> STATE = IllegalStateException.class;
 
+    interface OfValue {
+        long run(int value);
+    }
+
     private static int checked;
     private static int wrong;
+    private static String about = "";
 
     static void answer(String what, long got, long due) {
         checked++;
@@ -43,6 +48,35 @@ final class Due {
             return e.getClass();
         }
         return null;
+    }
+
+    /** The call throws nothing. */
+    static void taken(String what, Call call) {
+        checked++;
+        Class<?> thrown = thrownBy(call);
+        if (thrown != null) {
+            tell(what + " threw " + thrown);
+        }
+    }
+
+    /** The values from the least to the greatest are taken, and those beside them are refused. */
+    static void range(PenGuild guild, String what, OfValue call, int least, int greatest) {
+        taken(what + " of " + least, () -> call.run(least));
+        taken(what + " of " + greatest, () -> call.run(greatest));
+        int[] beside = {least - 1, greatest + 1, Integer.MIN_VALUE, Integer.MAX_VALUE, least - 65536, greatest + 65536};
+        for (int value : beside) {
+            refused(guild, ARGUMENT, what + " of " + value, () -> call.run(value));
+        }
+    }
+
+    /** The numbers from 0 on, so many of them, are taken, and those beside them are refused. */
+    static void numbers(PenGuild guild, String what, OfValue call, int size) {
+        taken(what + " of 0", () -> call.run(0));
+        taken(what + " of " + (size - 1), () -> call.run(size - 1));
+        int[] beside = {-1, size, Integer.MIN_VALUE, Integer.MAX_VALUE, size - 65536, size - 1 + 65536};
+        for (int value : beside) {
+            refused(guild, INDEX, what + " of " + value, () -> call.run(value));
+        }
     }
 
     /** The call answers so and saves one state, and undo brings back all that was before it. */
@@ -117,6 +151,22 @@ final class Due {
         return all.toString();
     }
 
+    /** Pen 0 has 350000, each other pen 100000, the reserve 150000; piece 0, of pen 0, is accepted. */
+    static PenGuild rich(int pens) {
+        PenGuild guild = guild(pens);
+        guild.set(0, 30);
+        int piece = shared(guild, 0, 100000, "0");
+        guild.accept(piece);
+        for (int i = 0; i < 4; i++) {
+            guild.royalty(piece, 100000);
+        }
+        guild.set(0, 10);
+        for (int pen = 1; pen < pens; pen++) {
+            earn(guild, pen, 100000);
+        }
+        return guild;
+    }
+
     static PenGuild guild(int pens) {
         PenGuild guild = new PenGuild();
         for (int pen = 0; pen < pens; pen++) {
@@ -167,7 +217,16 @@ final class Due {
 
     static void tell(String what) {
         wrong++;
-        System.out.println(what);
+        System.out.println(what + (about.isEmpty() ? "" : " [" + about + "]"));
+    }
+
+    static int checked() {
+        return checked;
+    }
+
+    /** The sentence that is told with what is not as due. */
+    static void about(String sentence) {
+        about = sentence;
     }
 
     private Due() {

@@ -39,12 +39,15 @@ public final class ModelTest {
         Model model = new Model();
         List<String> told = new ArrayList<>();
         int wild = run % 3 == 0 ? 6 : 40;
-        for (int call = 0; call < CALLS; call++) {
-            int which = call < 2 + run % 11 ? 0 : call == CALLS - 1 ? 28 : choose();
-            int[] a = arguments(which, guild, wild);
-            if (which == 10 && below(5) > 0) {
-                fillBuffer(guild, model, list(guild));
+        int made = 0;
+        while (made < CALLS) {
+            int which = made < 2 + run % 11 ? 0 : made == CALLS - 1 ? 28 : choose();
+            int[] there = {model.count(0), model.count(1), model.count(3), model.count(5)};
+            int[] a = arguments(which, there, wild);
+            if (which == 10 && below(5) > 0 && made < CALLS - 30) {
+                made += fillBuffer(guild, model, list(model.count(0)));
             }
+            made++;
             String due = outcome(() -> ofModel(model, which, a));
             String got = outcome(() -> ofGuild(guild, which, a));
             told.add(NAMES[which] + "(" + a[0] + ", " + a[1] + ", " + a[2] + ") " + got);
@@ -63,7 +66,8 @@ public final class ModelTest {
         PenGuild guild = new PenGuild();
         for (int call = 0; call < 20000; call++) {
             int which = choose();
-            int[] a = arguments(which, guild, 10);
+            int[] there = {guild.count(0), guild.count(1), guild.count(3), guild.count(5)};
+            int[] a = arguments(which, there, 10);
             if (which == 13) {
                 a[1] = 100000;
             }
@@ -96,14 +100,15 @@ public final class ModelTest {
         }
     }
 
-    private static int[] arguments(int which, PenGuild guild, int wild) {
-        int pen = number(guild.count(0), wild);
-        int other = number(guild.count(0), wild);
-        int piece = number(guild.count(1), wild);
+    /** Of a guild with so many pens and pieces, such a reserve and such balances. */
+    private static int[] arguments(int which, int[] there, int wild) {
+        int pen = number(there[0], wild);
+        int other = number(there[0], wild);
+        int piece = number(there[1], wild);
         int amount = amount(wild);
         switch (which) {
-            case 1: return new int[] {pen, other, below(3) == 0 ? guild.count(5) / 20 : amount};
-            case 3: return new int[] {pen, below(3) == 0 ? amount : guild.count(3) / (1 + below(9)), 0};
+            case 1: return new int[] {pen, other, below(3) == 0 ? there[3] / 20 : amount};
+            case 3: return new int[] {pen, below(3) == 0 ? amount : there[2] / (1 + below(9)), 0};
             case 4: return new int[] {pen, amount, 0};
             case 5: return setting(wild);
             case 7: return new int[] {pen, amount, 0};
@@ -150,25 +155,27 @@ public final class ModelTest {
     }
 
     /** A list of parts, most often a right one. */
-    private static String list(PenGuild guild) {
+    private static String list(int pens) {
         StringBuilder text = new StringBuilder();
         int items = 1 + below(4) + (below(12) == 0 ? 1 : 0);
         int pen = below(12);
         for (int i = 0; i < items; i++) {
-            pen = guild.count(0) == 0 || below(15) == 0 ? below(13) : (pen + 1 + below(3)) % guild.count(0);
+            pen = pens == 0 || below(15) == 0 ? below(13) : (pen + 1 + below(3)) % pens;
             text.append(i == 0 ? "" : ",").append(pen);
             text.append(below(2) == 0 ? "" : "*" + (below(15) == 0 ? below(12) : 2 + below(8)));
         }
         return text.toString();
     }
 
-    private static void fillBuffer(PenGuild guild, Model model, String text) {
+    /** Returns how many calls it made. */
+    private static int fillBuffer(PenGuild guild, Model model, String text) {
         guild.clearBuffer();
         model.clearBuffer();
         for (char c : text.toCharArray()) {
             guild.append(c);
             model.append(c);
         }
+        return text.length() + 1;
     }
 
     private static long ofGuild(PenGuild x, int which, int[] a) {

@@ -130,31 +130,41 @@ public final class TextsTest {
         Due.answer("what was refused saved nothing", x.undo(), 0);
     }
 
-    /** Calls of each kind, and then what was seen before each of the latest 6, back from the end. */
+    /** From each place in a run of calls of many kinds, 1 to 6 calls on and as many back. */
     private static void undoOfEach() {
+        int calls = someCalls(Due.guild(1), 0).length;
+        for (int first = 0; first < calls; first++) {
+            for (int count = 1; count <= 6 && first + count <= calls; count++) {
+                onAndBack(first, count);
+            }
+        }
+    }
+
+    private static void onAndBack(int first, int count) {
         PenGuild x = Due.guild(3);
         int piece = Due.shared(x, 0, 1000, "0,1");
         x.order(2, 100);
         x.draft(piece, 2);
         x.accept(piece);
-        Due.Call[] calls = {() -> x.royalty(piece, 500), () -> x.advance(2, 50), () -> x.sell(0, 1, 200),
+        Due.Call[] calls = someCalls(x, piece);
+        for (int i = 0; i < first; i++) {
+            calls[i].run();
+        }
+        String before = Due.seen(x);
+        for (int i = first; i < first + count; i++) {
+            calls[i].run();
+        }
+        for (int left = 5; left > 5 - count; left--) {
+            Due.answer("undo", x.undo(), left);
+        }
+        Due.answer(count + " calls from " + first + " undone", before.compareTo(Due.seen(x)), 0);
+    }
+
+    private static Due.Call[] someCalls(PenGuild x, int piece) {
+        return new Due.Call[] {() -> x.royalty(piece, 500), () -> x.advance(2, 50), () -> x.sell(0, 1, 200),
             () -> x.dispute(piece, 2), () -> x.nextYear(), () -> x.buyBack(0), () -> x.kill(1),
             () -> x.set(2, 7), () -> x.withdraw(2, 9), () -> x.royalty(piece, 900), () -> x.addPen(),
             () -> x.order(3, 77), () -> x.revise(2, 99), () -> x.draft(2, 3), () -> x.accept(2)};
-        for (int last = 6; last <= calls.length; last++) {
-            calls[last - 6].run();
-            String[] before = new String[6];
-            for (int i = 0; i < 6 && last - 5 + i < calls.length; i++) {
-                before[i] = Due.seen(x);
-                calls[last - 5 + i].run();
-            }
-            for (int i = 5; i >= 0; i--) {
-                if (before[i] != null) {
-                    x.undo();
-                    Due.answer("undo of call " + (last - 5 + i), before[i].compareTo(Due.seen(x)), 0);
-                }
-            }
-        }
     }
 
     private static void undoKeepsTheBuffer() {

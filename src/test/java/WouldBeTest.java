@@ -1,12 +1,10 @@
-/** Promises 27, 29 and 30: the fairest parts, the spread and the digest. */
+/** Promises 27 and 29: the fairest parts and the spread. */
 public final class WouldBeTest {
     public static void main(String[] args) {
         fairest();
         fairestOfFour();
         fairestRefused();
         spread();
-        digest();
-        digestOfTheAmount();
         Due.end();
     }
 
@@ -96,90 +94,6 @@ public final class WouldBeTest {
         for (int i = 0; i < 400; i++) {
             x.royalty(piece, 100000);
         }
-        Due.answer("the digest of much", x.digest(), digestOf(x, ""));
         Due.answer("all of one of 12", x.spread(), 11.0 / 12.0);
-    }
-
-    private static void digest() {
-        PenGuild x = Due.guild(12);
-        Due.answer("digest of pens", x.digest(), digestOf(x, ""));
-        Due.write(x, "0*2,~");
-        Due.answer("digest with a buffer", x.digest(), digestOf(x, "0*2,~"));
-        for (int i = 0; i < 20; i++) {
-            int piece = Due.shared(x, i % 12, 1000 + 37 * i, i % 3 == 0 ? "0,11*3" : "2*3,5,10,1");
-            Due.drafts(x, piece, i % 5, i % 7, i % 11, i % 4, i % 4);
-        }
-        for (int piece = 0; piece < 15; piece++) {
-            x.accept(piece);
-            x.royalty(piece, 999);
-        }
-        x.kill(17);
-        x.advance(2, 777);
-        x.sell(4, 2, 90);
-        x.set(2, 1000);
-        x.withdraw(0, 3);
-        Due.answer("digest of much", x.digest(), digestOf(x, ""));
-        Due.answer("digest again", x.digest(), digestOf(x, ""));
-        Due.write(x, "11");
-        Due.answer("digest with a buffer", x.digest(), digestOf(x, "11"));
-        Due.answer("another order of digits", x.clearBuffer(), 2);
-    }
-
-    /** Which piece is the best here hangs on the amount: it is another one for 99 and for 101. */
-    private static void digestOfTheAmount() {
-        PenGuild x = Due.guild(2);
-        x.set(0, 0);
-        x.set(1, 1);
-        x.set(2, 99);
-        x.accept(Due.shared(x, 1, 100, "0"));
-        x.accept(Due.shared(x, 0, 100, "0"));
-        Due.answer("for 99", x.bestPiece(0, 99), 0);
-        Due.answer("for 100", x.bestPiece(0, 100), 1);
-        Due.answer("digest", x.digest(), digestOf(x, ""));
-        x = Due.guild(2);
-        x.set(0, 0);
-        x.set(1, 0);
-        x.set(2, 100);
-        x.accept(Due.shared(x, 0, 100, "0"));
-        x.accept(Due.shared(x, 0, 100, "0"));
-        x.set(2, 101);
-        x.royalty(0, 1);
-        Due.answer("for 100", x.bestPiece(0, 100), 0);
-        Due.answer("for 101", x.bestPiece(0, 101), 1);
-        Due.answer("digest", x.digest(), digestOf(x, ""));
-    }
-
-    /** The digest as the document puts it together from the other calls. */
-    private static long digestOf(PenGuild x, String buffer) {
-        long hash = 2281;
-        for (int what = 0; what <= 13; what++) {
-            hash = 31 * hash + x.count(what);
-        }
-        for (int setting = 0; setting <= 5; setting++) {
-            hash = 31 * hash + x.setting(setting);
-        }
-        for (int pen = 0; pen < x.count(0); pen++) {
-            for (int what = 0; what <= 8; what++) {
-                hash = 31 * hash + x.pen(pen, what);
-            }
-            hash = 31 * hash + x.bestPiece(pen, 100);
-        }
-        for (int piece = 0; piece < x.count(1); piece++) {
-            for (int what = 0; what <= 9; what++) {
-                hash = 31 * hash + x.piece(piece, what);
-            }
-            for (int pen = 0; pen < x.count(0); pen++) {
-                for (int what = 0; what <= 2; what++) {
-                    hash = 31 * hash + x.between(piece, pen, what);
-                }
-                hash = 31 * hash + x.fairest(piece, pen);
-            }
-        }
-        hash = 31 * hash + Double.doubleToLongBits(x.spread());
-        hash = 31 * hash + buffer.length();
-        for (int i = 0; i < buffer.length(); i++) {
-            hash = 31 * hash + buffer.charAt(i);
-        }
-        return hash;
     }
 }
