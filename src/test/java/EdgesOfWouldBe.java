@@ -327,6 +327,7 @@ final class EdgesOfWouldBe {
         Due.answer("the best piece for 100", bestForMore().bestPiece(0, 100), 0);
         Due.answer("another one for 101", bestForMore().bestPiece(0, 101), 1);
         digests(() -> bestForMore(), "");
+        digestsOfSpreads();
         Sentences.says(30, "Returns the hash.");
         PenGuild x = Due.rich(12);
         long digest = x.digest();
@@ -334,6 +335,34 @@ final class EdgesOfWouldBe {
         Due.answer("of a twin", Due.rich(12).digest(), digest);
         x.nextYear();
         Due.answer("of another year", x.digest() == digest ? 1 : 0, 0);
+    }
+
+    /** Spreads at and beside halves of halves, very small and great ones: each other bits. */
+    private static void digestsOfSpreads() {
+        digestOfSpread(20.0 / 80.0, 30, 10);
+        digestOfSpread(240.0 / 1000.0, 370, 130);
+        digestOfSpread(260.0 / 1000.0, 380, 120);
+        digestOfSpread(1.0 / 399998.0, 100000, 99999);
+        digestOfSpread(99990.0 / 200020.0, 100000, 10);
+        digestOfSpread(199980.0 / 300060.0, 10, 100000, 10);
+        digestOfSpread(180.0 / 360.0, 30, 90, 0);
+        for (int other = 10; other < 1000; other += 7) {
+            digestOfSpread((1000 - other) / (2.0 * (1000 + other)), 1000, other);
+        }
+    }
+
+    private static void digestOfSpread(double due, int... balances) {
+        Maker maker = () -> {
+            PenGuild x = Due.guild(balances.length);
+            for (int pen = 0; pen < balances.length; pen++) {
+                if (balances[pen] > 0) {
+                    Due.earn(x, pen, balances[pen]);
+                }
+            }
+            return x;
+        };
+        Due.answer("spread", maker.make().spread(), due);
+        digests(maker, "");
     }
 
     private static PenGuild fullOfMoney() {
